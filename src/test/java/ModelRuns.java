@@ -427,6 +427,8 @@ public final class ModelRuns {
     private final BookedDetours program = new BookedDetours();
     private final Model model = new Model();
     private final StringBuilder told = new StringBuilder();
+    // A day on which little time goes by and rides wait close together, so that cancelling breaks promises.
+    private final boolean calm;
     private int wrong;
     private int calls;
     private static final int[] SEEN = new int[64];
@@ -434,6 +436,7 @@ public final class ModelRuns {
     ModelRuns(int number) {
         this.number = number;
         random = new Random(number);
+        calm = number % 3 == 0;
     }
 
     private int of(int bound) {
@@ -472,6 +475,7 @@ public final class ModelRuns {
 
     private int waitTime() {
         int now = model.state.now;
+        if (calm && of(8) > 0) return Math.min(600, now + of(150));
         int kind = of(10);
         if (kind < 4) return of(601);
         if (kind < 9) return Math.min(600, Math.max(0, now - 20 + of(120)));
@@ -479,7 +483,7 @@ public final class ModelRuns {
     }
 
     private int byTime(int wait) {
-        int kind = of(10);
+        int kind = calm ? 3 + of(7) : of(10);
         if (kind < 6) return Math.max(0, Math.min(900, Math.max(wait, model.state.now) + of(120)));
         if (kind < 9) return 900 - of(100);
         return some(901);
@@ -519,12 +523,12 @@ public final class ModelRuns {
             due("book(" + from + ", " + to + ", " + wait + ", " + by + ")",
                     program.book(from, to, wait, by), model.book(from, to, wait, by));
         } else if (kind < 53) {
-            int ride = rideThatStands(0);
+            int ride = calm && !model.state.route.isEmpty() ? model.state.route.get(0).ride() : rideThatStands(0);
             due("cancel(" + ride + ")", program.cancel(ride), model.cancel(ride));
         } else if (kind < 59) {
             int ride = rideThatStands(1);
             due("miss(" + ride + ")", program.miss(ride), model.miss(ride));
-        } else if (kind < 72) {
+        } else if (kind < 72 && (!calm || of(4) == 0)) {
             int now = of(20) == 0 ? some(2100) : Math.min(2000, model.state.now + of(of(4) == 0 ? 60 : 9));
             if (!model.state.route.isEmpty() && of(3) == 0) now = model.visit(0, 3) + of(3) - 1;
             due("pass(" + now + ")", program.pass(now), model.pass(now));
@@ -544,6 +548,18 @@ public final class ModelRuns {
         } else {
             int slot = some(2);
             due("restore(" + slot + ")", program.restore(slot), model.restore(slot));
+        }
+    }
+
+    /** One question right behind a change: what was known before it must not count. */
+    private void askOne() {
+        int ride = Math.max(0, model.state.rides.size() - 1 - of(2));
+        switch (of(5)) {
+            case 0 -> due("ride(" + ride + ", 5)", program.ride(ride, 5), model.ride(ride, 5));
+            case 1 -> due("ride(" + ride + ", 6)", program.ride(ride, 6), model.ride(ride, 6));
+            case 2 -> due("count(7)", program.count(7), model.count(7));
+            case 3 -> due("count(8)", program.count(8), model.count(8));
+            default -> due("spare(" + ride + ")", program.spare(ride), model.spare(ride));
         }
     }
 
@@ -593,14 +609,16 @@ public final class ModelRuns {
             due("stop(" + x + ", " + y + ")", program.stop(x, y), model.stop(x, y));
         }
         for (int setting = 0; setting < 3; setting++) {
-            if (of(2) == 0) continue;
+            if (of(2) == 0 && !calm) continue;
             int value = setting == 0 ? 1 + of(4) : setting == 1 ? of(of(2) == 0 ? 61 : 12) : of(6);
+            if (calm) value = setting == 0 ? 2 + of(3) : setting == 1 ? 5 + of(20) : of(2);
             due("set(" + setting + ", " + value + ")", program.set(setting, value), model.set(setting, value));
         }
         while (calls < MOST_CALLS - 80 && wrong == 0) {
             change();
             see();
-            if (of(3) == 0) ask();
+            askOne();
+            if (of(3) == 0 || !model.state.keeps(model.state.route)) ask();
         }
         return wrong;
     }

@@ -206,6 +206,12 @@ public final class PromiseTests {
         dueRoute(x, 0, -1, 1, -2);
 
         x = road(0, 10);
+        x.book(0, 1, 100, 111);
+        due("the only way is ahead", x.ifBooked(0, 1, 0, 11, 3), 1);
+        due("the only way is ahead", x.book(0, 1, 0, 11), 1);
+        dueRoute(x, 1, -2, 0, -1);
+
+        x = road(0, 10);
         x.set(0, 2);
         x.book(0, 1, 0, 14);
         x.book(0, 1, 0, 14);
@@ -321,6 +327,15 @@ public final class PromiseTests {
         due("a later one leaves", x.cancel(1), 2);
         due("the way stays", x.visit(0, 3), 10);
         due("count(7)", x.count(7), 20);
+
+        x = road(0, 10, 20);
+        x.book(1, 2, 0, 100);
+        x.book(1, 2, 0, 100);
+        dueRoute(x, 1, 0, -2, -1);
+        x.pass(3);
+        due("the second one leaves", x.cancel(0), 2);
+        due("count(7)", x.count(7), 20);
+        due("count(4)", x.count(4), 22);
     }
 
     private static void passing() {
@@ -474,10 +489,41 @@ public final class PromiseTests {
         x.pass(16);
         due("visit(0, 1)", x.visit(0, 1), 1);
         due("visit(0, 4)", x.visit(0, 4), 0);
+        due("visit(0, 5)", x.visit(0, 5), 0);
         x.book(2, 1, 0, 200);
         dueRoute(x, 1, -1, -2);
         due("visit(1, 4)", x.visit(1, 4), 1);
         due("visit(1, 3)", x.visit(1, 3), 27);
+    }
+
+    /** Each answer is asked for first behind a change. */
+    private static void answersBehindChanges() {
+        promise = "promises 9, 10, 12 and 15";
+        BookedDetours x = road(0, 10, 20);
+        for (int wait = 10; wait <= 90; wait += 20) {
+            x.book(1, 2, wait, wait + 100);
+            due("ride(r, 5)", x.ride(x.count(1) - 1, 5), wait);
+            x.undo();
+            x.book(1, 2, wait + 1, wait + 100);
+            due("ride(r, 6)", x.ride(x.count(1) - 1, 6), wait + 12);
+            x.undo();
+            x.book(1, 2, wait + 2, wait + 100);
+            due("count(8)", x.count(8), wait - 8);
+            x.undo();
+            x.book(1, 0, wait, wait + 100);
+            due("count(7)", x.count(7), 20);
+            x.undo();
+            due("count(7)", x.count(7), 0);
+            x.book(2, 0, wait, wait + 100);
+            due("count(4)", x.count(4), Math.max(20, wait) + 22);
+            x.undo();
+            x.book(1, 0, wait + 3, wait + 100);
+            due("visit(0, 3)", x.visit(0, 3), wait + 3);
+            x.undo();
+            x.book(1, 0, wait + 4, wait + 100);
+            due("spare(r)", x.spare(x.count(1) - 1), 85);
+            x.undo();
+        }
     }
 
     private static void coordinates() {
@@ -803,6 +849,7 @@ public final class PromiseTests {
         bookingOfTexts();
         rides();
         visits();
+        answersBehindChanges();
         coordinates();
         counts();
         whatIf();
