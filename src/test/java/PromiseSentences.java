@@ -238,6 +238,10 @@ public final class PromiseSentences extends Sentences {
         dueTimes(x, 0, 11);
         due("ride(0, 5)", x.ride(0, 5), NONE);
         due("ride(0, 6)", x.ride(0, 6), NONE);
+        x.undo();
+        x.cancel(1);
+        dueRoute(x, 0, -1);
+        dueTimes(x, 0, 11);
     }
 
     // ---- Promise 6: pass
@@ -710,7 +714,7 @@ public final class PromiseSentences extends Sentences {
 
     /** "(however many rides there are)". */
     static void whatIfThereAre16Rides() {
-        BookedDetours x = roadWith(1, 10, 0, 0, 10);
+        BookedDetours x = roadWith(1, 0, 0, 0, 10);
         for (int ride = 0; ride < 16; ride++) {
             x.book(0, 1, 0, 900);
             if (ride > 0) x.cancel(ride);
@@ -1173,7 +1177,11 @@ public final class PromiseSentences extends Sentences {
         due("count(13)", x.count(13), 6);
         for (int i = 5; i >= 0; i--) due("undo()", x.undo(), i);
         due("all six", x.count(0), 0);
-        due("undo()", x.undo(), NOT_POSSIBLE);
+        for (int i = 0; i < 7; i++) x.stop(i, i);
+        due("count(13), of seven", x.count(13), 6);
+        for (int i = 5; i >= 0; i--) due("undo()", x.undo(), i);
+        due("undo(), the first one", x.undo(), NOT_POSSIBLE);
+        due("count(0)", x.count(0), 1);
     }
 
     /** "when one more is recorded, the oldest one is dropped". */
@@ -1414,24 +1422,28 @@ public final class PromiseSentences extends Sentences {
 
     /** "Saves everything": the settings, the stops, the rides, the route, now, and where the bus is free when. */
     static void everythingIsSaved() {
-        BookedDetours x = roadWith(2, 20, 3, 0, 10, 20);
-        x.book(0, 1, 0, 900);
-        x.book(2, 0, 40, 900);
-        x.pass(2);
+        BookedDetours x = new BookedDetours();
+        x.set(0, 2);
+        x.set(1, 20);
+        x.set(2, 3);
+        x.stop(0, 9);
+        x.stop(10, 7);
+        x.book(0, 1, 5, 800);
+        x.book(1, 0, 4, 700);
+        x.pass(21);
+        x.pass(22);
+        dueRoute(x, -1, -2);
         String saved = told(x);
-        int earliest = x.earliestBy(1, 0, 0);
         x.save(1);
-        x.miss(0);
-        x.cancel(1);
-        x.set(0, 8);
-        x.set(1, 0);
-        x.set(2, 0);
-        x.stop(30, 30);
-        x.book(2, 3, 0, 900);
-        x.pass(500);
+        for (int i = 0; i < 6; i++) x.undo();
+        x.stop(30, 1);
+        x.stop(2, 30);
+        x.book(1, 0, 50, 600);
+        x.cancel(0);
+        x.set(1, 7);
         x.restore(1);
         same("restored", told(x), saved);
-        due("earliestBy", x.earliestBy(1, 0, 0), earliest);
+        due("from where the bus is", x.ifBooked(1, 0, 30, 900, 1), 30);
     }
 
     // ---- Promise 22: restore

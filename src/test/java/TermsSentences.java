@@ -209,10 +209,13 @@ public final class TermsSentences extends Sentences {
     /** "There are up to 12 stops". */
     static void stopsAreUpTo12() {
         BookedDetours x = new BookedDetours();
-        for (int stop = 0; stop < 12; stop++) due("stop", x.stop(stop, 0), stop);
+        for (int stop = 0; stop < 12; stop++) due("stop", x.stop(stop, 30 - stop), stop);
         due("stop 12", x.stop(12, 0), TOO_MANY);
         due("count(0)", x.count(0), 12);
+        due("coordinate(11, 0)", x.coordinate(11, 0), 11);
+        due("coordinate(11, 1)", x.coordinate(11, 1), 19);
         due("from the last one", x.book(11, 0, 0, 900), 0);
+        due("visit(0, 3)", x.visit(0, 3), 22);
     }
 
     /** "numbered in the order in which they were told". */
@@ -333,32 +336,25 @@ public final class TermsSentences extends Sentences {
     static void howARideStands() {
         BookedDetours x = road(0, 10);
         x.book(0, 1, 0, 900);
-        due("booked", x.ride(0, 4), BookedDetours.BOOKED);
+        due("booked", x.ride(0, 4), 0);
         x.cancel(0);
-        due("cancelled", x.ride(0, 4), BookedDetours.CANCELLED);
+        due("cancelled", x.ride(0, 4), 3);
         x.undo();
         x.pass(1);
-        due("aboard", x.ride(0, 4), BookedDetours.ABOARD);
+        due("aboard", x.ride(0, 4), 1);
         x.miss(0);
-        due("missed", x.ride(0, 4), BookedDetours.MISSED);
+        due("missed", x.ride(0, 4), 4);
         x.undo();
         x.pass(12);
-        due("done", x.ride(0, 4), BookedDetours.DONE);
+        due("done", x.ride(0, 4), 2);
     }
 
     /** The constants: error codes, NONE, the settings, and how a ride stands. */
-    static void constants() {
-        int[] got = {BookedDetours.NO_SUCH, BookedDetours.BAD_VALUE, BookedDetours.BAD_TEXT, BookedDetours.TOO_MANY,
-            BookedDetours.NOT_POSSIBLE, BookedDetours.NONE};
-        for (int i = 0; i < got.length; i++) due("the error code at " + i, got[i], -1 - i);
-        due("SEATS", BookedDetours.SEATS, 0);
-        due("SLACK", BookedDetours.SLACK, 1);
-        due("STOPPING", BookedDetours.STOPPING, 2);
-        due("BOOKED", BookedDetours.BOOKED, 0);
-        due("ABOARD", BookedDetours.ABOARD, 1);
-        due("DONE", BookedDetours.DONE, 2);
-        due("CANCELLED", BookedDetours.CANCELLED, 3);
-        due("MISSED", BookedDetours.MISSED, 4);
+    static void constants() throws ReflectiveOperationException {
+        String[] names = {"NO_SUCH", "BAD_VALUE", "BAD_TEXT", "TOO_MANY", "NOT_POSSIBLE", "NONE", "SEATS", "SLACK", "STOPPING",
+            "BOOKED", "ABOARD", "DONE", "CANCELLED", "MISSED"};
+        int[] want = {-1, -2, -3, -4, -5, -6, 0, 1, 2, 0, 1, 2, 3, 4};
+        for (int i = 0; i < names.length; i++) due(names[i], BookedDetours.class.getField(names[i]).getInt(null), want[i]);
     }
 
     // ---- Route, times
@@ -793,6 +789,16 @@ public final class TermsSentences extends Sentences {
         due("book", x.book(0, 1, 100, 111), 0);
     }
 
+    /** "If there is none, it cannot be booked": if there is but one, it is taken, wherever it is. */
+    static void theOnlyWayIsTaken() {
+        BookedDetours x = road(0, 10);
+        x.book(0, 1, 100, 111);
+        due("ways", x.ifBooked(0, 1, 0, 11, 3), 1);
+        due("book", x.book(0, 1, 0, 11), 1);
+        dueRoute(x, 1, -2, 0, -1);
+        dueTimes(x, 0, 11, 100, 111);
+    }
+
     // ---- Time goes by
 
     /** "Now is a time, 0 at first." */
@@ -886,6 +892,7 @@ public final class TermsSentences extends Sentences {
     static void theSignsOfABooking() {
         dueLast("0@", "0-", "0;", "0>1>", "0>1-", "0>1;", "0>1@2>", "0>1@2@", "0>1@2;");
         dueLast(">", "@", "-", "0>>", "0>@", "0>1@-", "0>1@@", "0>1@2--", "0>1@2-;", "0/", "0:", "0>1@2-3a");
+        dueLast("/", ":", "1/", "1:", "0>1@1/", "0>1@1:", "0>1@2-1/", "0>1@2-1:");
     }
 
     /** "a stop is a number from 0 to 11". */
