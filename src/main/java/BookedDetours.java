@@ -616,9 +616,11 @@ public final class BookedDetours {
 
         /** The room of the oldest state is used again for the next one. */
         private void dropOldest() {
-            Day oldest = days[0];
-            for (int i = 1; i < days.length; i++) days[i - 1] = days[i];
-            days[days.length - 1] = oldest;
+            for (int i = 1; i < days.length; i++) {
+                Day oldest = days[i - 1];
+                days[i - 1] = days[i];
+                days[i] = oldest;
+            }
             length = days.length - 1;
         }
 
